@@ -15,6 +15,7 @@ public final class CostumeTest {
         dressingIsRefused();
         dressingRefusesTheFirstReasonNamed();
         aCostumeWearsAndIsTorn();
+        eachCostumeWearsAlone();
         repairCostsTheWear();
         repairIsRefused();
         costumesAskedForMustBe();
@@ -123,6 +124,20 @@ public final class CostumeTest {
         CHECK.due("costumeOf(3) after three exits", x.costumeOf(3), -1);
         CHECK.due("costumeOf(4), another costume", x.costumeOf(4), 4);
         CHECK.due("wear(4)", x.wear(4), 0);
+    }
+
+    private static void eachCostumeWearsAlone() {
+        for (int costume = 0; costume < 8; costume++) {
+            Clockmask x = new Clockmask();
+            int player = Math.min(costume, 5);
+            wearOut(x, player, costume, 2);
+            CHECK.due("costumeOf(" + player + ") after two exits", x.costumeOf(player), costume);
+            wearOut(x, player, costume, 1);
+            CHECK.due("costumeOf(" + player + ") after three exits", x.costumeOf(player), -1);
+            for (int other = 0; other < 8; other++) {
+                CHECK.due("wear(" + other + ")", x.wear(other), other == costume ? 3 : 0);
+            }
+        }
     }
 
     private static void repairCostsTheWear() {

@@ -17,6 +17,7 @@ public final class PlayTest {
         playersAndMasksAskedForMustBe();
         aGuessGainsOrLoses();
         aGuessIsMadeOnceInAPlay();
+        eachGuesserGuessesEachPlayer();
         guessingIsRefused();
         guessingRefusesTheFirstReasonNamed();
         endingPaysForCuesCalledAndMissed();
@@ -111,6 +112,24 @@ public final class PlayTest {
         called(x, WEAR, 0, 2);
         CHECK.due("guess(0, 0, 2) in the next play", x.guess(0, 0, 2), true);
         CHECK.due("points(0)", x.points(0), 9);
+    }
+
+    private static void eachGuesserGuessesEachPlayer() {
+        Clockmask x = new Clockmask();
+        for (int player = 0; player < 6; player++) {
+            x.dress(player, player + 1);
+            called(x, ENTER, player, 0);
+            called(x, WEAR, player, 5 - player);
+        }
+        for (int guesser = 0; guesser < 3; guesser++) {
+            for (int player = 0; player < 6; player++) {
+                int g = guesser;
+                int p = player;
+                CHECK.due("guess(" + g + ", " + p + ", 3)", x.guess(g, p, 3), p == 2);
+                CHECK.refused(x, "guess(" + g + ", " + p + ", 3) again", STATE, () -> x.guess(g, p, 3));
+            }
+            CHECK.due("points(" + guesser + ")", x.points(guesser), -2);
+        }
     }
 
     private static void guessingIsRefused() {
