@@ -3,6 +3,7 @@ import java.util.concurrent.Callable;
 /** Counts the answers that are not as due, and prints each. */
 final class Check {
     private final String name;
+    private String sentence = "";
     private int asked = 0;
     private int wrong = 0;
 
@@ -10,11 +11,16 @@ final class Check {
         this.name = name;
     }
 
+    /** What follows tests this sentence of the document; a wrong answer is printed with it. */
+    void sentence(String words) {
+        sentence = " [" + words + "]";
+    }
+
     void due(String call, Object got, Object want) {
         asked++;
         if (!want.equals(got)) {
             wrong++;
-            System.out.println(name + ": " + call + " answered " + got + ", due is " + want);
+            System.out.println(name + ": " + call + " answered " + got + ", due is " + want + sentence);
         }
     }
 

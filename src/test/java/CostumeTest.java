@@ -89,7 +89,7 @@ public final class CostumeTest {
         CHECK.refused(x, "dress(2, 2) on stage", STATE, () -> x.dress(2, 2));
         CHECK.refused(x, "dress(2, 3) on stage", STATE, () -> x.dress(2, 3));
         Clockmask y = new Clockmask();
-        wearOut(y, 0, 1, 3);
+        Scenes.wearOut(y, 0, 1, 3);
         CHECK.refused(y, "dress(0, 1) torn", STATE, () -> y.dress(0, 1));
         CHECK.refused(y, "dress(1, 1) torn", STATE, () -> y.dress(1, 1));
     }
@@ -105,21 +105,21 @@ public final class CostumeTest {
         CHECK.refused(x, "dress(0, 3) on stage, does not fit", ARGUMENT, () -> x.dress(0, 3));
         CHECK.refused(x, "dress(1, 7) on another, does not fit", ARGUMENT, () -> x.dress(1, 7));
         Clockmask y = new Clockmask();
-        wearOut(y, 0, 0, 3);
+        Scenes.wearOut(y, 0, 0, 3);
         CHECK.refused(y, "dress(5, 0) torn, does not fit", ARGUMENT, () -> y.dress(5, 0));
     }
 
     private static void aCostumeWearsAndIsTorn() {
         Clockmask x = new Clockmask();
-        wearOut(x, 4, 5, 1);
+        Scenes.wearOut(x, 4, 5, 1);
         CHECK.due("wear(5) after one exit", x.wear(5), 1);
         CHECK.due("costumeOf(4) after one exit", x.costumeOf(4), 5);
-        wearOut(x, 4, 5, 1);
+        Scenes.wearOut(x, 4, 5, 1);
         CHECK.due("wear(5) after two exits", x.wear(5), 2);
         CHECK.due("costumeOf(4) after two exits", x.costumeOf(4), 5);
         CHECK.due("dress(4, 4), off with the worn one", x.dress(4, 4), 5);
         CHECK.due("dress(3, 5), worn but not torn", x.dress(3, 5), -1);
-        wearOut(x, 3, 5, 1);
+        Scenes.wearOut(x, 3, 5, 1);
         CHECK.due("wear(5) after three exits", x.wear(5), 3);
         CHECK.due("costumeOf(3) after three exits", x.costumeOf(3), -1);
         CHECK.due("costumeOf(4), another costume", x.costumeOf(4), 4);
@@ -130,9 +130,9 @@ public final class CostumeTest {
         for (int costume = 0; costume < 8; costume++) {
             Clockmask x = new Clockmask();
             int player = Math.min(costume, 5);
-            wearOut(x, player, costume, 2);
+            Scenes.wearOut(x, player, costume, 2);
             CHECK.due("costumeOf(" + player + ") after two exits", x.costumeOf(player), costume);
-            wearOut(x, player, costume, 1);
+            Scenes.wearOut(x, player, costume, 1);
             CHECK.due("costumeOf(" + player + ") after three exits", x.costumeOf(player), -1);
             for (int other = 0; other < 8; other++) {
                 CHECK.due("wear(" + other + ")", x.wear(other), other == costume ? 3 : 0);
@@ -143,12 +143,12 @@ public final class CostumeTest {
     private static void repairCostsTheWear() {
         Clockmask x = new Clockmask();
         CHECK.due("repair(0) of a new costume", x.repair(0), 10);
-        wearOut(x, 0, 1, 3);
+        Scenes.wearOut(x, 0, 1, 3);
         CHECK.due("repair(1) of a torn costume", x.repair(1), 7);
         CHECK.due("wear(1)", x.wear(1), 0);
         CHECK.due("purse()", x.purse(), 7);
         CHECK.due("dress(0, 1), mended", x.dress(0, 1), -1);
-        wearOut(x, 0, 1, 2);
+        Scenes.wearOut(x, 0, 1, 2);
         x.dress(0, 0);
         CHECK.due("repair(1) of a costume with wear 2", x.repair(1), 5);
         CHECK.due("wear(1)", x.wear(1), 0);
@@ -161,13 +161,13 @@ public final class CostumeTest {
         }
         x.dress(5, 7);
         CHECK.refused(x, "repair(7) that somebody has on", STATE, () -> x.repair(7));
-        emptyPurseDownTo(x, 2);
-        wearOut(x, 0, 1, 3);
+        Scenes.purseDownTo(x, 2);
+        Scenes.wearOut(x, 0, 1, 3);
         CHECK.refused(x, "repair(1) for 3 with a purse of 2", STATE, () -> x.repair(1));
         CHECK.due("repair(2) that costs nothing", x.repair(2), 2);
         Clockmask y = new Clockmask();
-        emptyPurseDownTo(y, 3);
-        wearOut(y, 0, 1, 3);
+        Scenes.purseDownTo(y, 3);
+        Scenes.wearOut(y, 0, 1, 3);
         CHECK.due("repair(1) for 3 with a purse of 3", y.repair(1), 0);
         CHECK.due("purse()", y.purse(), 0);
         CHECK.due("repair(1) with an empty purse", y.repair(1), 0);
@@ -181,26 +181,5 @@ public final class CostumeTest {
         for (int costume : NO_COSTUMES) {
             CHECK.refused(x, "wear(" + costume + ")", NO_SUCH, () -> x.wear(costume));
         }
-    }
-
-    /** Dresses the player and lets it enter and exit some times; the purse stays out of it. */
-    private static void wearOut(Clockmask x, int player, int costume, int exits) {
-        x.dress(player, costume);
-        for (int i = 0; i < exits; i++) {
-            x.call(newCue(x, Clockmask.ENTER, player));
-            x.call(newCue(x, Clockmask.EXIT, player));
-        }
-    }
-
-    private static int newCue(Clockmask x, int kind, int player) {
-        return x.addCue(kind, player, 0, -1);
-    }
-
-    private static void emptyPurseDownTo(Clockmask x, int purse) {
-        int cues = x.purse() - purse;
-        for (int i = 0; i < cues; i++) {
-            x.miss(x.addCue(Clockmask.DOFF, 0, 0, -1));
-        }
-        CHECK.due("endPlay()", x.endPlay(), purse);
     }
 }

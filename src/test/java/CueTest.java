@@ -318,9 +318,9 @@ public final class CueTest {
         x.addCue(DOFF, 1, 0, 3);
         x.addCue(WEAR, 2, 2, 2);
         CHECK.due("miss(1)", x.miss(1), 3);
-        CHECK.due("states", states(x), "020220");
+        CHECK.due("states", Scenes.states(x), "020220");
         CHECK.due("miss(0)", x.miss(0), 3);
-        CHECK.due("states", states(x), "222222");
+        CHECK.due("states", Scenes.states(x), "222222");
     }
 
     private static void missLeavesTheOthers() {
@@ -331,11 +331,11 @@ public final class CueTest {
         x.addCue(DOFF, 0, 0, -1);
         x.addCue(WEAR, 5, 5, 1);
         x.run();
-        CHECK.due("states", states(x), "11111");
+        CHECK.due("states", Scenes.states(x), "11111");
         x.addCue(WEAR, 0, 4, 3);
         x.addCue(WEAR, 0, 4, 3);
         CHECK.due("miss(5), nothing waits for it", x.miss(5), 1);
-        CHECK.due("states", states(x), "1111120");
+        CHECK.due("states", Scenes.states(x), "1111120");
         CHECK.due("maskOf(5)", x.maskOf(5), 5);
         CHECK.due("run()", x.run(), 1);
     }
@@ -367,13 +367,5 @@ public final class CueTest {
         x.endPlay();
         CHECK.refused(x, "canCall(0) of the play before", NO_SUCH, () -> x.canCall(0));
         CHECK.refused(x, "stateOf(0) of the play before", NO_SUCH, () -> x.stateOf(0));
-    }
-
-    private static String states(Clockmask x) {
-        StringBuilder text = new StringBuilder();
-        for (int cue = 0; cue < x.cues(); cue++) {
-            text.append(x.stateOf(cue));
-        }
-        return text.toString();
     }
 }

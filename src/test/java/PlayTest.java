@@ -30,14 +30,14 @@ public final class PlayTest {
     private static void masksAndWearersAgree() {
         Clockmask x = new Clockmask();
         for (int player = 0; player < 6; player++) {
-            called(x, WEAR, player, 5 - player);
+            Scenes.called(x, WEAR, player, 5 - player);
         }
         for (int player = 0; player < 6; player++) {
             CHECK.due("maskOf(" + player + ")", x.maskOf(player), 5 - player);
             CHECK.due("maskByCues(" + player + ")", x.maskByCues(player), 5 - player);
             CHECK.due("wearerOf(" + player + ")", x.wearerOf(player), 5 - player);
         }
-        called(x, DOFF, 2, 0);
+        Scenes.called(x, DOFF, 2, 0);
         CHECK.due("maskOf(2)", x.maskOf(2), -1);
         CHECK.due("maskByCues(2)", x.maskByCues(2), -1);
         CHECK.due("wearerOf(3)", x.wearerOf(3), -1);
@@ -64,7 +64,7 @@ public final class PlayTest {
         CHECK.due("maskByCues(1)", x.maskByCues(1), 5);
         CHECK.due("maskByCues(1) again", x.maskByCues(1), 5);
         CHECK.due("maskOf(1)", x.maskOf(1), 5);
-        called(x, EXIT, 1, 0);
+        Scenes.called(x, EXIT, 1, 0);
         CHECK.due("maskOf(1), off stage with its mask", x.maskOf(1), 5);
         CHECK.due("maskByCues(1), off stage with its mask", x.maskByCues(1), 5);
     }
@@ -103,13 +103,13 @@ public final class PlayTest {
         CHECK.refused(x, "guess(0, 0, 5) after a right one", STATE, () -> x.guess(0, 0, 5));
         x.guess(1, 0, 0);
         CHECK.refused(x, "guess(1, 0, 5) after a wrong one", STATE, () -> x.guess(1, 0, 5));
-        called(x, SWAP, 0, 1);
+        Scenes.called(x, SWAP, 0, 1);
         CHECK.refused(x, "guess(0, 0, 4) with another mask", STATE, () -> x.guess(0, 0, 4));
         CHECK.due("guess(0, 1, 5)", x.guess(0, 1, 5), true);
         CHECK.due("guess(2, 0, 4)", x.guess(2, 0, 4), true);
         x.endPlay();
-        called(x, ENTER, 0, 0);
-        called(x, WEAR, 0, 2);
+        Scenes.called(x, ENTER, 0, 0);
+        Scenes.called(x, WEAR, 0, 2);
         CHECK.due("guess(0, 0, 2) in the next play", x.guess(0, 0, 2), true);
         CHECK.due("points(0)", x.points(0), 9);
     }
@@ -118,8 +118,8 @@ public final class PlayTest {
         Clockmask x = new Clockmask();
         for (int player = 0; player < 6; player++) {
             x.dress(player, player + 1);
-            called(x, ENTER, player, 0);
-            called(x, WEAR, player, 5 - player);
+            Scenes.called(x, ENTER, player, 0);
+            Scenes.called(x, WEAR, player, 5 - player);
         }
         for (int guesser = 0; guesser < 3; guesser++) {
             for (int player = 0; player < 6; player++) {
@@ -142,11 +142,11 @@ public final class PlayTest {
             CHECK.refused(x, "guess(0, 0, " + number + ")", NO_SUCH, () -> x.guess(0, 0, number));
         }
         CHECK.refused(x, "guess(0, 2, 0) neither on stage nor masked", STATE, () -> x.guess(0, 2, 0));
-        called(x, DOFF, 0, 0);
+        Scenes.called(x, DOFF, 0, 0);
         CHECK.refused(x, "guess(0, 0, 5) on stage without a mask", STATE, () -> x.guess(0, 0, 5));
-        called(x, EXIT, 1, 0);
+        Scenes.called(x, EXIT, 1, 0);
         CHECK.refused(x, "guess(0, 1, 4) off stage with a mask", STATE, () -> x.guess(0, 1, 4));
-        called(x, WEAR, 0, 3);
+        Scenes.called(x, WEAR, 0, 3);
         CHECK.due("guess(0, 0, 3), none was made before", x.guess(0, 0, 3), true);
     }
 
@@ -168,7 +168,7 @@ public final class PlayTest {
         CHECK.due("plays()", x.plays(), 1);
         CHECK.due("endPlay(), no cues", x.endPlay(), 11);
         CHECK.due("plays()", x.plays(), 2);
-        called(x, WEAR, 0, 0);
+        Scenes.called(x, WEAR, 0, 0);
         CHECK.due("endPlay(), 1 called", x.endPlay(), 12);
         x.miss(x.addCue(DOFF, 0, 0, -1));
         CHECK.due("endPlay(), 1 missed", x.endPlay(), 11);
@@ -177,23 +177,23 @@ public final class PlayTest {
 
     private static void endingNeverTakesMoreThanThereIs() {
         Clockmask x = new Clockmask();
-        missAll(x, 10);
+        Scenes.missAll(x, 10);
         CHECK.due("endPlay(), 10 missed", x.endPlay(), 0);
-        called(x, WEAR, 0, 0);
-        missAll(x, 3);
+        Scenes.called(x, WEAR, 0, 0);
+        Scenes.missAll(x, 3);
         CHECK.due("endPlay(), 1 called and 3 missed", x.endPlay(), 0);
-        called(x, WEAR, 0, 0);
-        called(x, WEAR, 1, 1);
-        missAll(x, 1);
+        Scenes.called(x, WEAR, 0, 0);
+        Scenes.called(x, WEAR, 1, 1);
+        Scenes.missAll(x, 1);
         CHECK.due("endPlay(), 2 called and 1 missed", x.endPlay(), 1);
-        missAll(x, 24);
+        Scenes.missAll(x, 24);
         CHECK.due("endPlay(), 24 missed", x.endPlay(), 0);
         CHECK.due("purse()", x.purse(), 0);
     }
 
     private static void endingClearsTheStage() {
         Clockmask x = onStageWithMasks();
-        called(x, EXIT, 1, 0);
+        Scenes.called(x, EXIT, 1, 0);
         x.guess(0, 0, 5);
         x.endPlay();
         CHECK.due("cues()", x.cues(), 0);
@@ -227,20 +227,10 @@ public final class PlayTest {
         Clockmask x = new Clockmask();
         x.dress(0, 0);
         x.dress(1, 1);
-        called(x, ENTER, 0, 0);
-        called(x, ENTER, 1, 0);
-        called(x, WEAR, 0, 5);
-        called(x, WEAR, 1, 4);
+        Scenes.called(x, ENTER, 0, 0);
+        Scenes.called(x, ENTER, 1, 0);
+        Scenes.called(x, WEAR, 0, 5);
+        Scenes.called(x, WEAR, 1, 4);
         return x;
-    }
-
-    private static void called(Clockmask x, int kind, int player, int other) {
-        x.call(x.addCue(kind, player, other, -1));
-    }
-
-    private static void missAll(Clockmask x, int cues) {
-        for (int i = 0; i < cues; i++) {
-            x.miss(x.addCue(DOFF, 5, 0, -1));
-        }
     }
 }
