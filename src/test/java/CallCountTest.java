@@ -129,6 +129,7 @@ public final class CallCountTest {
         costumesPutOnAgainAndAgain();
         costumesTornAndRepaired();
         guessesAllWrong();
+        laterCallsThrowOnlyWhatTheFaceNames();
         CHECK.end();
     }
 
@@ -289,5 +290,18 @@ public final class CallCountTest {
         x.fillUpTo(MOST_CALLS - 1);
         CHECK.due("points(2), call " + x.calls, x.next().points(2), -6 * plays);
         CHECK.due("calls", x.calls, MOST_CALLS);
+    }
+
+    /** The answers are free then; but LANGUAGE.md, rule 7, holds in any state. */
+    private static void laterCallsThrowOnlyWhatTheFaceNames() {
+        CHECK.sentence("what later calls answer is free");
+        Counted x = new Counted();
+        manyPlays(x, MOST_CALLS);
+        while (x.calls < 20 * MOST_CALLS) {
+            Due due = AFTER_MANY_PLAYS[x.calls % AFTER_MANY_PLAYS.length];
+            String got = Check.outcome(() -> due.asked.of(x.next()));
+            boolean named = got.equals(NO_SUCH) || got.equals(ARGUMENT) || got.equals(STATE);
+            CHECK.due(due.call + ", call " + x.calls + ", threw " + got, got.endsWith("Exception") && !named, false);
+        }
     }
 }
